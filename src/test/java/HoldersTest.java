@@ -6,6 +6,7 @@ public final class HoldersTest {
     public static void main(String[] args) {
         promise7PinBlob();
         promise7PinResult();
+        promise7TwoResults();
         promise7ResultUsesLater();
         promise7OwnPinOfAResultsBlob();
         promise7WrongInputs();
@@ -59,6 +60,20 @@ public final class HoldersTest {
         Due.no("7 one that isn't whole", x.pin(3, true, 1));
         Due.is("7 one pin", 1, x.free(3));
         Due.is("7 free again", 0, x.about(0, 1));
+    }
+
+    private static void promise7TwoResults() {
+        SweepRows x = withBlobs(2);
+        for (int i = 0; i < 16; i++) {
+            x.result();
+        }
+        x.uses(0, 0);
+        x.uses(15, 1);
+        Due.yes("7 the first result", x.pin(3, true, 0));
+        Due.yes("7 the last result", x.pin(3, true, 15));
+        Due.is("7 the first one's blob", 1, x.about(0, 1));
+        Due.is("7 the last one's blob", 1, x.about(1, 1));
+        Due.is("7 two results are two pins", 2, x.free(3));
     }
 
     private static void promise7ResultUsesLater() {

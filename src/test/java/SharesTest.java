@@ -5,6 +5,7 @@ public final class SharesTest {
 
     public static void main(String[] args) {
         promise11Weight();
+        promise11OthersKeepTheirs();
         promise12Fair();
         promise12OverMeansMoreThanTheShare();
         promise12AsItIsWhenTheOrderIsMade();
@@ -40,6 +41,12 @@ public final class SharesTest {
             Due.no("11 weight " + w, x.weight(0, w));
         }
         shares("11 nothing changed", x, 1, 0, 0, 0, 0, 99);
+    }
+
+    private static void promise11OthersKeepTheirs() {
+        SweepRows x = new SweepRows(100);
+        x.weight(2, 5);
+        shares("11 the others have 1 each", x, 10, 10, 50, 10, 10, 10);
     }
 
     private static void promise12Fair() {
