@@ -606,7 +606,9 @@ public final class SweepRows {
 
         int takeSteps(int n, Shelf shelf, long pinned) {
             int before = dropped;
-            for (int i = 0; i < n && !over; i++) {
+            // Each step takes a blob of the line or ends the sweep, so more than these are never made.
+            int most = Math.min(n, BLOBS + 1);
+            for (int i = 0; i < most && !over; i++) {
                 takeStep(shelf, pinned);
             }
             return dropped - before;

@@ -9,6 +9,7 @@ public final class SweepsTest {
         promise13WrongWishChangesNothing();
         promise14Step();
         promise14OverIsFoundByAStep();
+        promise14AllFortyAtOnce();
         promise14SparesWhatWasRead();
         promise14SparesWhatIsPinned();
         promise14WrongInputs();
@@ -115,6 +116,17 @@ public final class SweepsTest {
         Due.is("14 all of the order", 4, v.step(9));
         Due.is("14 the new one stays", 3, v.used(-1));
         Due.sweep("14 none is next, above the wish", v, 4, 0, 4, 1);
+    }
+
+    private static void promise14AllFortyAtOnce() {
+        SweepRows x = new SweepRows(40);
+        for (int i = 0; i < 40; i++) {
+            x.blob(1, 0);
+        }
+        x.begin(0);
+        x.read(39);
+        Due.is("14 all forty, and the step that ends it", 39, x.step(MAX));
+        Due.sweep("14 forty", x, 40, 1, 39, 1);
     }
 
     private static void promise14SparesWhatWasRead() {
