@@ -233,7 +233,7 @@ public final class SweepRows {
     }
 
     private static boolean isIn(long blobs, int blob) {
-        return (blobs & bit(blob)) != 0L;
+        return (blobs & (1L << blob)) != 0L;
     }
 
     /** The blobs: what each is, when it was read last, and which are there. */
@@ -299,10 +299,14 @@ public final class SweepRows {
             return knows(blob) ? reads[blob] : NONE;
         }
 
+        long sizeTimesAge(int blob, int now) {
+            return knows(blob) ? (long) sizes[blob] * (now - reads[blob]) : 0L;
+        }
+
         long thereOf(int project) {
             long found = 0L;
             for (int blob = 0; blob < count; blob++) {
-                if (holds(blob) && projects[blob] == project) {
+                if (isIn(there, blob) && projects[blob] == project) {
                     found |= bit(blob);
                 }
             }
@@ -551,16 +555,12 @@ public final class SweepRows {
             if (isIn(ahead, one) != isIn(ahead, other)) {
                 return isIn(ahead, one);
             }
-            long oneCost = cost(one, shelf, now);
-            long otherCost = cost(other, shelf, now);
-            if (oneCost != otherCost) {
-                return oneCost > otherCost;
+            long oneProduct = shelf.sizeTimesAge(one, now);
+            long otherProduct = shelf.sizeTimesAge(other, now);
+            if (oneProduct != otherProduct) {
+                return oneProduct > otherProduct;
             }
             return shelf.lastRead(one) < shelf.lastRead(other);
-        }
-
-        private static long cost(int blob, Shelf shelf, int now) {
-            return (long) shelf.sizeOf(blob) * (now - shelf.lastRead(blob));
         }
     }
 
