@@ -36,6 +36,13 @@ final class Due {
         }
     }
 
+    /** The shares of the projects, from project 0 on. */
+    static void shares(String what, SweepRows x, int... want) {
+        for (int project = 0; project < want.length; project++) {
+            is(what + ": share(" + project + ")", want[project], x.share(project));
+        }
+    }
+
     static void end() {
         if (wrong != 0) {
             System.out.println(wrong + " answers are not as due");

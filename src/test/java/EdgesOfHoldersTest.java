@@ -37,20 +37,9 @@ public final class EdgesOfHoldersTest {
         Due.end();
     }
 
-    private static SweepRows with(int results, int blobs) {
-        SweepRows x = new SweepRows(1000);
-        for (int i = 0; i < results; i++) {
-            x.result();
-        }
-        for (int i = 0; i < blobs; i++) {
-            x.blob(10, 0);
-        }
-        return x;
-    }
-
     // "HOLDERS 0 .. 7 PIN BLOBS and RESULTS"
     private static void eightHolders() {
-        SweepRows x = with(8, 8);
+        SweepRows x = Stores.with(8, 8);
         for (int holder = 0; holder < 8; holder++) {
             Due.yes("7 blob by holder " + holder, x.pin(holder, false, holder));
             Due.yes("7 result by holder " + holder, x.pin(holder, true, holder));
@@ -64,7 +53,7 @@ public final class EdgesOfHoldersTest {
 
     // "false if there are none such"
     private static void pinByNoneSuch() {
-        SweepRows x = with(1, 1);
+        SweepRows x = Stores.with(1, 1);
         x.uses(0, 0);
         for (int holder : NO_HOLDERS) {
             Due.no("7 pin(" + holder + ", false, 0)", x.pin(holder, false, 0));
@@ -74,9 +63,9 @@ public final class EdgesOfHoldersTest {
     }
 
     private static void pinOfNoSuchBlob() {
-        SweepRows none = with(1, 0);
+        SweepRows none = Stores.with(1, 0);
         Due.no("7 before there are any", none.pin(0, false, 0));
-        SweepRows x = with(16, 1);
+        SweepRows x = Stores.with(16, 1);
         for (int which : new int[] {MIN, -64, -1, 1, 15, 39, 40, 63, 64, 128, MAX}) {
             Due.no("7 pin(0, false, " + which + ")", x.pin(0, false, which));
         }
@@ -84,9 +73,9 @@ public final class EdgesOfHoldersTest {
     }
 
     private static void pinOfNoSuchResult() {
-        SweepRows none = with(0, 1);
+        SweepRows none = Stores.with(0, 1);
         Due.no("7 before there are any", none.pin(0, true, 0));
-        SweepRows x = with(1, 40);
+        SweepRows x = Stores.with(1, 40);
         for (int which : new int[] {MIN, -32, -1, 1, 15, 16, 31, 32, 39, 64, MAX}) {
             Due.no("7 pin(0, true, " + which + ")", x.pin(0, true, which));
         }
@@ -94,7 +83,7 @@ public final class EdgesOfHoldersTest {
     }
 
     private static void pinOfTheLastOnes() {
-        SweepRows x = with(16, 40);
+        SweepRows x = Stores.with(16, 40);
         Due.yes("7 the last blob", x.pin(7, false, 39));
         Due.no("7 beyond the last blob", x.pin(7, false, 40));
         Due.yes("7 the last result", x.pin(7, true, 15));
@@ -106,7 +95,7 @@ public final class EdgesOfHoldersTest {
 
     // "PINS a BLOB (that is there)"
     private static void pinOfADroppedBlob() {
-        SweepRows x = with(0, 1);
+        SweepRows x = Stores.with(0, 1);
         x.begin(0);
         x.step(1);
         Due.no("7 a dropped one", x.pin(0, false, 0));
@@ -116,7 +105,7 @@ public final class EdgesOfHoldersTest {
 
     // "or a RESULT (that is WHOLE)"
     private static void pinOfAResultThatIsNotWhole() {
-        SweepRows x = with(1, 2);
+        SweepRows x = Stores.with(1, 2);
         x.uses(0, 0);
         x.uses(0, 1);
         x.begin(0);
@@ -128,7 +117,7 @@ public final class EdgesOfHoldersTest {
     }
 
     private static void pinOfAnEmptyResult() {
-        SweepRows x = with(1, 0);
+        SweepRows x = Stores.with(1, 0);
         Due.yes("7 a result of nothing", x.pin(0, true, 0));
         Due.no("7 already", x.pin(0, true, 0));
         Due.is("7 one pin", 1, x.free(0));
@@ -136,7 +125,7 @@ public final class EdgesOfHoldersTest {
 
     // "it has it PINNED already"
     private static void pinAlready() {
-        SweepRows x = with(2, 2);
+        SweepRows x = Stores.with(2, 2);
         Due.yes("7 the blob", x.pin(0, false, 1));
         Due.no("7 the blob already", x.pin(0, false, 1));
         Due.yes("7 the result of the same number", x.pin(0, true, 1));
@@ -147,7 +136,7 @@ public final class EdgesOfHoldersTest {
     }
 
     private static void pinAlreadyByAnother() {
-        SweepRows x = with(1, 1);
+        SweepRows x = Stores.with(1, 1);
         for (int holder = 0; holder < 8; holder++) {
             Due.yes("7 blob 0 by " + holder, x.pin(holder, false, 0));
             Due.yes("7 result 0 by " + holder, x.pin(holder, true, 0));
@@ -161,7 +150,7 @@ public final class EdgesOfHoldersTest {
 
     // "(all of whose BLOBS are PINNED by that, also such as it USES later)"
     private static void pinsOfAResultCoverWhatItUsesLater() {
-        SweepRows x = with(1, 9);
+        SweepRows x = Stores.with(1, 9);
         x.pin(0, true, 0);
         for (int blob = 0; blob < 8; blob++) {
             Due.is("7 not yet " + blob, 0, x.about(blob, 1));
@@ -176,7 +165,7 @@ public final class EdgesOfHoldersTest {
 
     // "or its LEASE has ended"
     private static void pinAroundTheEndOfTheLease() {
-        SweepRows x = with(1, 3);
+        SweepRows x = Stores.with(1, 3);
         x.tick(5);
         x.lease(0, 2);
         Due.yes("7 two before the end", x.pin(0, false, 0));
@@ -194,7 +183,7 @@ public final class EdgesOfHoldersTest {
 
     // "NONE if there is none such"
     private static void freeByNoneSuch() {
-        SweepRows x = with(0, 8);
+        SweepRows x = Stores.with(0, 8);
         for (int holder = 0; holder < 8; holder++) {
             x.pin(holder, false, holder);
         }
@@ -206,7 +195,7 @@ public final class EdgesOfHoldersTest {
 
     // "how many there were"
     private static void freeOfNothing() {
-        SweepRows x = with(0, 1);
+        SweepRows x = Stores.with(0, 1);
         Due.is("8 none yet", 0, x.free(0));
         x.pin(0, false, 0);
         Due.is("8 one", 1, x.free(0));
@@ -214,7 +203,7 @@ public final class EdgesOfHoldersTest {
     }
 
     private static void freeOfTheMost() {
-        SweepRows x = with(16, 40);
+        SweepRows x = Stores.with(16, 40);
         for (int which = 0; which < 40; which++) {
             Due.yes("8 blob " + which, x.pin(7, false, which));
         }
@@ -227,7 +216,7 @@ public final class EdgesOfHoldersTest {
     }
 
     private static void freeCountsNoRefusedPins() {
-        SweepRows x = with(1, 1);
+        SweepRows x = Stores.with(1, 1);
         x.pin(3, false, 0);
         x.pin(3, false, 0);
         x.pin(3, false, 1);
@@ -238,7 +227,7 @@ public final class EdgesOfHoldersTest {
     }
 
     private static void freeOfOneHolderAlone() {
-        SweepRows x = with(0, 3);
+        SweepRows x = Stores.with(0, 3);
         x.pin(0, false, 0);
         x.pin(1, false, 1);
         x.pin(2, false, 2);
@@ -249,7 +238,7 @@ public final class EdgesOfHoldersTest {
     }
 
     private static void freeAfterTheEndOfTheLease() {
-        SweepRows x = with(1, 1);
+        SweepRows x = Stores.with(1, 1);
         x.pin(0, false, 0);
         x.pin(0, true, 0);
         x.lease(0, 1);
@@ -261,7 +250,7 @@ public final class EdgesOfHoldersTest {
 
     // "and its LEASE ends NEVER"
     private static void freeMakesTheLeaseEndNever() {
-        SweepRows x = with(0, 1);
+        SweepRows x = Stores.with(0, 1);
         x.lease(0, 1);
         x.lease(1, 1);
         x.free(0);
@@ -275,7 +264,7 @@ public final class EdgesOfHoldersTest {
 
     // "(NEVER at first)"
     private static void leaseEndsNeverAtFirst() {
-        SweepRows x = with(0, 1);
+        SweepRows x = Stores.with(0, 1);
         x.pin(0, false, 0);
         for (int i = 0; i < 400; i++) {
             x.tick(1000000);
@@ -288,7 +277,7 @@ public final class EdgesOfHoldersTest {
 
     // "false if there is none such"
     private static void leaseByNoneSuch() {
-        SweepRows x = with(0, 8);
+        SweepRows x = Stores.with(0, 8);
         for (int holder = 0; holder < 8; holder++) {
             x.pin(holder, false, holder);
         }
@@ -308,7 +297,7 @@ public final class EdgesOfHoldersTest {
     // "so many ticks from now (0 .. 1000000)"
     private static void leasesWithinTheRange() {
         for (int ticks : new int[] {1, 2, 999999, 1000000}) {
-            SweepRows x = with(0, 1);
+            SweepRows x = Stores.with(0, 1);
             x.tick(1000000);
             x.pin(7, false, 0);
             Due.yes("9 lease of " + ticks, x.lease(7, ticks));
@@ -321,7 +310,7 @@ public final class EdgesOfHoldersTest {
 
     // "or it isn't so"
     private static void leasesBeyondTheRange() {
-        SweepRows x = with(0, 1);
+        SweepRows x = Stores.with(0, 1);
         x.pin(0, false, 0);
         Due.yes("9 lease of 5", x.lease(0, 5));
         for (int ticks : new int[] {MIN, -1000000, -1, 1000001, 1000000000, MAX}) {
@@ -336,7 +325,7 @@ public final class EdgesOfHoldersTest {
     }
 
     private static void leaseOfZero() {
-        SweepRows x = with(1, 2);
+        SweepRows x = Stores.with(1, 2);
         x.uses(0, 1);
         x.tick(3);
         x.pin(0, false, 0);
@@ -350,7 +339,7 @@ public final class EdgesOfHoldersTest {
     }
 
     private static void leaseIsCountedFromNow() {
-        SweepRows x = with(0, 1);
+        SweepRows x = Stores.with(0, 1);
         x.tick(1000000);
         x.lease(0, 3);
         Due.yes("9 it has not ended", x.pin(0, false, 0));
@@ -361,7 +350,7 @@ public final class EdgesOfHoldersTest {
     }
 
     private static void leaseAnew() {
-        SweepRows x = with(0, 1);
+        SweepRows x = Stores.with(0, 1);
         x.pin(0, false, 0);
         x.lease(0, 2);
         x.tick(1);
@@ -376,7 +365,7 @@ public final class EdgesOfHoldersTest {
 
     // "PIN .. until .. the CLOCK is at the end of their LEASE"
     private static void leaseAfterTheEnd() {
-        SweepRows x = with(0, 2);
+        SweepRows x = Stores.with(0, 2);
         x.pin(0, false, 0);
         x.lease(0, 1);
         x.tick(1);
@@ -388,7 +377,7 @@ public final class EdgesOfHoldersTest {
 
     // "or the CLOCK is at the end of their LEASE or beyond ..: they have PINNED nothing then"
     private static void pinsAtTheEndOfTheLease() {
-        SweepRows x = with(1, 3);
+        SweepRows x = Stores.with(1, 3);
         x.uses(0, 1);
         x.pin(0, false, 0);
         x.pin(0, true, 0);
@@ -405,7 +394,7 @@ public final class EdgesOfHoldersTest {
     }
 
     private static void pinsBeyondTheEndOfTheLease() {
-        SweepRows x = with(0, 1);
+        SweepRows x = Stores.with(0, 1);
         x.pin(0, false, 0);
         x.lease(0, 10);
         x.tick(1000000);

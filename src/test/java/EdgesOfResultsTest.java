@@ -26,17 +26,6 @@ public final class EdgesOfResultsTest {
         Due.end();
     }
 
-    private static SweepRows with(int results, int blobs) {
-        SweepRows x = new SweepRows(1000);
-        for (int i = 0; i < results; i++) {
-            x.result();
-        }
-        for (int i = 0; i < blobs; i++) {
-            x.blob(10, 0);
-        }
-        return x;
-    }
-
     /** All blobs but that one are read since begin, so that it alone is dropped. */
     private static void dropOnly(SweepRows x, int blob, int blobs) {
         x.begin(0);
@@ -63,7 +52,7 @@ public final class EdgesOfResultsTest {
 
     // "A new RESULT that uses nothing"
     private static void newResultsUseNothing() {
-        SweepRows x = with(0, 1);
+        SweepRows x = Stores.with(0, 1);
         x.result();
         x.uses(0, 0);
         x.result();
@@ -76,9 +65,9 @@ public final class EdgesOfResultsTest {
 
     // "false if there are none such"
     private static void usesOfNoSuchResult() {
-        SweepRows none = with(0, 1);
+        SweepRows none = Stores.with(0, 1);
         Due.no("4 before there are any", none.uses(0, 0));
-        SweepRows x = with(1, 1);
+        SweepRows x = Stores.with(1, 1);
         for (int result : NO_RESULTS_BUT_ZERO) {
             Due.no("4 uses(" + result + ", 0)", x.uses(result, 0));
         }
@@ -88,9 +77,9 @@ public final class EdgesOfResultsTest {
     }
 
     private static void usesOfNoSuchBlob() {
-        SweepRows none = with(1, 0);
+        SweepRows none = Stores.with(1, 0);
         Due.no("4 before there are any", none.uses(0, 0));
-        SweepRows x = with(1, 1);
+        SweepRows x = Stores.with(1, 1);
         for (int blob : NO_BLOBS_BUT_ZERO) {
             Due.no("4 uses(0, " + blob + ")", x.uses(0, blob));
         }
@@ -102,7 +91,7 @@ public final class EdgesOfResultsTest {
 
     // "it does already": "(no two the same)"
     private static void usesAlready() {
-        SweepRows x = with(2, 8);
+        SweepRows x = Stores.with(2, 8);
         Due.yes("4 once", x.uses(0, 0));
         Due.no("4 twice", x.uses(0, 0));
         Due.yes("4 by another result", x.uses(1, 0));
@@ -115,7 +104,7 @@ public final class EdgesOfResultsTest {
 
     // "USE BLOBS, at most 8", "it has 8"
     private static void usesAtMostEight() {
-        SweepRows x = with(2, 10);
+        SweepRows x = Stores.with(2, 10);
         for (int blob = 0; blob < 8; blob++) {
             Due.yes("4 uses(0, " + blob + ")", x.uses(0, blob));
         }
@@ -132,7 +121,7 @@ public final class EdgesOfResultsTest {
     }
 
     private static void usesEightWithDroppedOnes() {
-        SweepRows x = with(1, 9);
+        SweepRows x = Stores.with(1, 9);
         for (int blob = 0; blob < 8; blob++) {
             x.uses(0, blob);
         }
@@ -143,7 +132,7 @@ public final class EdgesOfResultsTest {
 
     // "or the BLOB isn't there"
     private static void usesOfADroppedBlob() {
-        SweepRows x = with(2, 2);
+        SweepRows x = Stores.with(2, 2);
         x.uses(0, 0);
         dropOnly(x, 0, 2);
         Due.no("4 a dropped one", x.uses(1, 0));
@@ -154,7 +143,7 @@ public final class EdgesOfResultsTest {
     }
 
     private static void usesOfTheLastOnes() {
-        SweepRows x = with(16, 40);
+        SweepRows x = Stores.with(16, 40);
         Due.yes("4 the last result, the last blob", x.uses(15, 39));
         Due.yes("4 the last result, the first blob", x.uses(15, 0));
         Due.yes("4 the first result, the last blob", x.uses(0, 39));
@@ -168,7 +157,7 @@ public final class EdgesOfResultsTest {
     }
 
     private static void refusedUsesLeaveNoTrace() {
-        SweepRows x = with(2, 2);
+        SweepRows x = Stores.with(2, 2);
         dropOnly(x, 1, 2);
         x.uses(0, 1);
         x.uses(0, 2);
@@ -184,28 +173,28 @@ public final class EdgesOfResultsTest {
     // "NONE if there is none such"
     private static void buildOfNoneSuch() {
         Due.is("6 before there are any", -1, new SweepRows(100).build(0));
-        SweepRows x = with(1, 1);
+        SweepRows x = Stores.with(1, 1);
         x.uses(0, 0);
         x.tick(1);
         for (int result : NO_RESULTS_BUT_ZERO) {
             Due.is("6 build(" + result + ")", -1, x.build(result));
         }
         Due.is("6 nothing is read", 0, x.about(0, 2));
-        SweepRows full = with(16, 0);
+        SweepRows full = Stores.with(16, 0);
         Due.is("6 the last", 1, full.build(15));
         Due.is("6 beyond the last", -1, full.build(16));
     }
 
     // "A WHOLE RESULT's BLOBS all are read: 1"
     private static void buildOfAnEmptyOne() {
-        SweepRows x = with(1, 1);
+        SweepRows x = Stores.with(1, 1);
         x.tick(1);
         Due.is("6 of nothing", 1, x.build(0));
         Due.is("6 nothing is read", 0, x.about(0, 2));
     }
 
     private static void buildOfEight() {
-        SweepRows x = with(1, 10);
+        SweepRows x = Stores.with(1, 10);
         for (int blob = 1; blob < 9; blob++) {
             x.uses(0, blob);
         }
@@ -218,7 +207,7 @@ public final class EdgesOfResultsTest {
 
     // "0 if it isn't WHOLE (nothing is read)"
     private static void buildOfOneThatIsNotWhole() {
-        SweepRows x = with(1, 9);
+        SweepRows x = Stores.with(1, 9);
         for (int blob = 0; blob < 8; blob++) {
             x.uses(0, blob);
         }
@@ -236,18 +225,18 @@ public final class EdgesOfResultsTest {
     // "false if there is none such"
     private static void wholeOfNoneSuch() {
         Due.no("22 before there are any", new SweepRows(100).whole(0));
-        SweepRows x = with(1, 1);
+        SweepRows x = Stores.with(1, 1);
         for (int result : NO_RESULTS_BUT_ZERO) {
             Due.no("22 whole(" + result + ")", x.whole(result));
         }
-        SweepRows full = with(16, 0);
+        SweepRows full = Stores.with(16, 0);
         Due.yes("22 the last", full.whole(15));
         Due.no("22 beyond the last", full.whole(16));
     }
 
     // "one is WHOLE if all of them are there"
     private static void wholeOfAnEmptyOne() {
-        SweepRows x = with(1, 1);
+        SweepRows x = Stores.with(1, 1);
         Due.yes("22 of nothing", x.whole(0));
         dropOnly(x, 0, 1);
         Due.yes("22 of nothing, all dropped", x.whole(0));
@@ -255,7 +244,7 @@ public final class EdgesOfResultsTest {
 
     private static void wholeOfEight() {
         for (int gone = 0; gone < 9; gone++) {
-            SweepRows x = with(1, 9);
+            SweepRows x = Stores.with(1, 9);
             for (int blob = 0; blob < 8; blob++) {
                 x.uses(0, blob);
             }

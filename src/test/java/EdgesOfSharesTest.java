@@ -15,6 +15,7 @@ public final class EdgesOfSharesTest {
         fairIfNoneIsOver();
         fairIfAllAreOver();
         overIsMoreThanTheShare();
+        overOfTheFirstAndTheLast();
         overOfAShareOfNothing();
         overWithoutWeights();
         overCountsPinnedButNotDroppedOnes();
@@ -41,22 +42,21 @@ public final class EdgesOfSharesTest {
         return x;
     }
 
-    private static void shares(String what, SweepRows x, int... want) {
-        for (int project = 0; project < want.length; project++) {
-            Due.is(what + ": share(" + project + ")", want[project], x.share(project));
-        }
-    }
-
     // "by WEIGHTS (0 .. 100, at first 1 each)"
     private static void weightsAreOneAtFirst() {
         SweepRows x = new SweepRows(600);
-        shares("11 at first", x, 100, 100, 100, 100, 100, 100);
+        Due.shares("11 at first", x, 100, 100, 100, 100, 100, 100);
         for (int project = 0; project < 6; project++) {
             Due.yes("11 to what it is", x.weight(project, 1));
         }
-        shares("11 the same", x, 100, 100, 100, 100, 100, 100);
-        x.weight(3, 5);
-        shares("11 five to one", x, 60, 60, 60, 300, 60, 60);
+        Due.shares("11 the same", x, 100, 100, 100, 100, 100, 100);
+        for (int project = 0; project < 6; project++) {
+            SweepRows y = new SweepRows(600);
+            y.weight(project, 5);
+            for (int other = 0; other < 6; other++) {
+                Due.is("11 five to one", other == project ? 300 : 60, y.share(other));
+            }
+        }
     }
 
     private static void weightsWithinTheRange() {
@@ -73,7 +73,7 @@ public final class EdgesOfSharesTest {
         for (int w : new int[] {MIN, -100, -1, 101, 102, MAX}) {
             Due.no("11 weight(0, " + w + ")", x.weight(0, w));
             Due.no("11 weight(5, " + w + ")", x.weight(5, w));
-            shares("11 as they were", x, 200, 100, 100, 100, 100, 0);
+            Due.shares("11 as they were", x, 200, 100, 100, 100, 100, 0);
         }
     }
 
@@ -84,15 +84,15 @@ public final class EdgesOfSharesTest {
             Due.no("11 weight(" + project + ", 0)", x.weight(project, 0));
             Due.no("11 weight(" + project + ", 100)", x.weight(project, 100));
         }
-        shares("11 as they were", x, 100, 100, 100, 100, 100, 100);
+        Due.shares("11 as they were", x, 100, 100, 100, 100, 100, 100);
     }
 
     private static void weightOfTheFirstAndTheLast() {
         SweepRows x = new SweepRows(600);
         Due.yes("11 the first", x.weight(0, 0));
-        shares("11 without the first", x, 0, 120, 120, 120, 120, 120);
+        Due.shares("11 without the first", x, 0, 120, 120, 120, 120, 120);
         Due.yes("11 the last", x.weight(5, 0));
-        shares("11 without the last", x, 0, 150, 150, 150, 150, 0);
+        Due.shares("11 without the last", x, 0, 150, 150, 150, 150, 0);
     }
 
     /** Project 1 is over by 7 bytes, project 0 isn't; without fair, blob 0 goes first. */
@@ -174,6 +174,19 @@ public final class EdgesOfSharesTest {
         Due.order("12 a byte more than the share", x, 1, 2, 3, 4, 0);
     }
 
+    private static void overOfTheFirstAndTheLast() {
+        for (int over = 0; over < 6; over++) {
+            SweepRows x = new SweepRows(60);
+            x.fair(true);
+            x.blob(10, over == 3 ? 2 : 3);
+            x.blob(5, over);
+            x.blob(6, over);
+            x.tick(1);
+            x.begin(0);
+            Due.order("12 project " + over + " is over", x, 2, 1, 0);
+        }
+    }
+
     private static void overOfAShareOfNothing() {
         SweepRows x = weighed(60, 1, 1, 1, 1, 1, 0);
         x.fair(true);
@@ -233,57 +246,57 @@ public final class EdgesOfSharesTest {
     }
 
     private static void sharesOfNoRoom() {
-        shares("21 room 0", new SweepRows(0), 0, 0, 0, 0, 0, 0);
-        shares("21 room -1", new SweepRows(-1), 0, 0, 0, 0, 0, 0);
-        shares("21 room 0, weights", weighed(0, 100, 0, 3, 0, 0, 1), 0, 0, 0, 0, 0, 0);
+        Due.shares("21 room 0", new SweepRows(0), 0, 0, 0, 0, 0, 0);
+        Due.shares("21 room -1", new SweepRows(-1), 0, 0, 0, 0, 0, 0);
+        Due.shares("21 room 0, weights", weighed(0, 100, 0, 3, 0, 0, 1), 0, 0, 0, 0, 0, 0);
     }
 
     // "the bytes that are left go one each to the PROJECTS"
     private static void sharesOfLittleRoom() {
-        shares("21 room 1", new SweepRows(1), 1, 0, 0, 0, 0, 0);
-        shares("21 room 5", new SweepRows(5), 1, 1, 1, 1, 1, 0);
-        shares("21 room 6", new SweepRows(6), 1, 1, 1, 1, 1, 1);
-        shares("21 room 7", new SweepRows(7), 2, 1, 1, 1, 1, 1);
+        Due.shares("21 room 1", new SweepRows(1), 1, 0, 0, 0, 0, 0);
+        Due.shares("21 room 5", new SweepRows(5), 1, 1, 1, 1, 1, 0);
+        Due.shares("21 room 6", new SweepRows(6), 1, 1, 1, 1, 1, 1);
+        Due.shares("21 room 7", new SweepRows(7), 2, 1, 1, 1, 1, 1);
     }
 
     private static void sharesWithNothingLeft() {
-        shares("21 nothing left", weighed(100, 50, 30, 10, 5, 4, 1), 50, 30, 10, 5, 4, 1);
-        shares("21 nothing left, none for 0", weighed(100, 0, 50, 0, 50, 0, 0), 0, 50, 0, 50, 0, 0);
+        Due.shares("21 nothing left", weighed(100, 50, 30, 10, 5, 4, 1), 50, 30, 10, 5, 4, 1);
+        Due.shares("21 nothing left, none for 0", weighed(100, 0, 50, 0, 50, 0, 0), 0, 50, 0, 50, 0, 0);
     }
 
     private static void sharesWithTheMostLeft() {
-        shares("21 five left", new SweepRows(11), 2, 2, 2, 2, 2, 1);
+        Due.shares("21 five left", new SweepRows(11), 2, 2, 2, 2, 2, 1);
         // 599 times 100 by 600: floors of 99, remainders of 500, five bytes left.
-        shares("21 five left, great weights", weighed(599, 100, 100, 100, 100, 100, 100),
+        Due.shares("21 five left, great weights", weighed(599, 100, 100, 100, 100, 100, 100),
             100, 100, 100, 100, 100, 99);
     }
 
     // "with the greatest remainders of that division"
     private static void sharesByTheGreatestRemainders() {
         // 5 times 1, 2, 3, 4, 0, 0 by 10: floors 0 1 1 2, remainders 5 0 5 0, one byte left.
-        shares("21 the lesser of equal ones", weighed(5, 1, 2, 3, 4, 0, 0), 1, 1, 1, 2, 0, 0);
+        Due.shares("21 the lesser of equal ones", weighed(5, 1, 2, 3, 4, 0, 0), 1, 1, 1, 2, 0, 0);
         // 9 times 1, 2, 3, 4 by 10: floors 0 1 2 3, remainders 9 8 7 6, three bytes left.
-        shares("21 falling remainders", weighed(9, 1, 2, 3, 4, 0, 0), 1, 2, 3, 3, 0, 0);
+        Due.shares("21 falling remainders", weighed(9, 1, 2, 3, 4, 0, 0), 1, 2, 3, 3, 0, 0);
         // 1 times 1, 2, 3, 4 by 10: remainders 1 2 3 4, one byte left.
-        shares("21 rising remainders", weighed(1, 1, 2, 3, 4, 0, 0), 0, 0, 0, 1, 0, 0);
+        Due.shares("21 rising remainders", weighed(1, 1, 2, 3, 4, 0, 0), 0, 0, 0, 1, 0, 0);
         // 1 times 99, 100, 100 by 299: the remainder greater by one.
-        shares("21 greater by one", weighed(1, 99, 100, 0, 100, 0, 0), 0, 1, 0, 0, 0, 0);
+        Due.shares("21 greater by one", weighed(1, 99, 100, 0, 100, 0, 0), 0, 1, 0, 0, 0, 0);
     }
 
     // "of equal ones the lesser PROJECT"
     private static void sharesOfEqualRemainders() {
-        shares("21 all equal", weighed(2, 7, 7, 7, 7, 7, 7), 1, 1, 0, 0, 0, 0);
-        shares("21 the last two equal", weighed(1, 0, 0, 0, 0, 9, 9), 0, 0, 0, 0, 1, 0);
-        shares("21 the first and the last equal", weighed(3, 9, 0, 0, 0, 0, 9), 2, 0, 0, 0, 0, 1);
+        Due.shares("21 all equal", weighed(2, 7, 7, 7, 7, 7, 7), 1, 1, 0, 0, 0, 0);
+        Due.shares("21 the last two equal", weighed(1, 0, 0, 0, 0, 9, 9), 0, 0, 0, 0, 1, 0);
+        Due.shares("21 the first and the last equal", weighed(3, 9, 0, 0, 0, 0, 9), 2, 0, 0, 0, 0, 1);
     }
 
     private static void sharesOfAllTheWeights() {
         // 1000000000 by 6: 166666666, remainder 400 of 600, four bytes left.
-        shares("21 the most of all", weighed(1000000000, 100, 100, 100, 100, 100, 100),
+        Due.shares("21 the most of all", weighed(1000000000, 100, 100, 100, 100, 100, 100),
             166666667, 166666667, 166666667, 166666667, 166666666, 166666666);
-        shares("21 room times weight is beyond an int", weighed(1000000000, 100, 0, 0, 0, 0, 100),
+        Due.shares("21 room times weight is beyond an int", weighed(1000000000, 100, 0, 0, 0, 0, 100),
             500000000, 0, 0, 0, 0, 500000000);
-        shares("21 the greatest against the least", weighed(1000000000, 1, 0, 0, 0, 0, 100),
+        Due.shares("21 the greatest against the least", weighed(1000000000, 1, 0, 0, 0, 0, 100),
             9900990, 0, 0, 0, 0, 990099010);
     }
 
@@ -295,7 +308,7 @@ public final class EdgesOfSharesTest {
                 SweepRows x = weighed(1000000000, all);
                 int[] want = new int[6];
                 want[project] = 1000000000;
-                shares("21 all for " + project, x, want);
+                Due.shares("21 all for " + project, x, want);
             }
         }
     }
@@ -303,11 +316,11 @@ public final class EdgesOfSharesTest {
     // "(W 0: all SHARES are 0.)"
     private static void sharesWithoutWeights() {
         SweepRows x = weighed(1000000000, 0, 0, 0, 0, 0, 0);
-        shares("21 W 0", x, 0, 0, 0, 0, 0, 0);
+        Due.shares("21 W 0", x, 0, 0, 0, 0, 0, 0);
         x.weight(5, 1);
-        shares("21 W 1", x, 0, 0, 0, 0, 0, 1000000000);
+        Due.shares("21 W 1", x, 0, 0, 0, 0, 0, 1000000000);
         x.weight(5, 0);
-        shares("21 W 0 again", x, 0, 0, 0, 0, 0, 0);
+        Due.shares("21 W 0 again", x, 0, 0, 0, 0, 0, 0);
     }
 
     // "shares of projects that sum to the whole"

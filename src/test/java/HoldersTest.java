@@ -21,16 +21,8 @@ public final class HoldersTest {
         Due.end();
     }
 
-    private static SweepRows withBlobs(int count) {
-        SweepRows x = new SweepRows(1000);
-        for (int i = 0; i < count; i++) {
-            x.blob(10, 0);
-        }
-        return x;
-    }
-
     private static void promise7PinBlob() {
-        SweepRows x = withBlobs(2);
+        SweepRows x = Stores.with(0, 2);
         Due.yes("7 pin", x.pin(0, false, 0));
         Due.no("7 already", x.pin(0, false, 0));
         Due.is("7 pinned", 1, x.about(0, 1));
@@ -43,7 +35,7 @@ public final class HoldersTest {
     }
 
     private static void promise7PinResult() {
-        SweepRows x = withBlobs(3);
+        SweepRows x = Stores.with(0, 3);
         x.result();
         x.result();
         x.uses(0, 0);
@@ -63,7 +55,7 @@ public final class HoldersTest {
     }
 
     private static void promise7TwoResults() {
-        SweepRows x = withBlobs(2);
+        SweepRows x = Stores.with(0, 2);
         for (int i = 0; i < 16; i++) {
             x.result();
         }
@@ -77,7 +69,7 @@ public final class HoldersTest {
     }
 
     private static void promise7ResultUsesLater() {
-        SweepRows x = withBlobs(2);
+        SweepRows x = Stores.with(0, 2);
         x.result();
         Due.yes("7 pin an empty result", x.pin(3, true, 0));
         Due.is("7 not yet", 0, x.about(1, 1));
@@ -90,7 +82,7 @@ public final class HoldersTest {
     }
 
     private static void promise7OwnPinOfAResultsBlob() {
-        SweepRows x = withBlobs(1);
+        SweepRows x = Stores.with(0, 1);
         x.result();
         x.uses(0, 0);
         Due.yes("7 the result", x.pin(0, true, 0));
@@ -100,7 +92,7 @@ public final class HoldersTest {
     }
 
     private static void promise7WrongInputs() {
-        SweepRows x = withBlobs(1);
+        SweepRows x = Stores.with(0, 1);
         x.result();
         for (int holder : new int[] {-1, 8, MIN, MAX}) {
             Due.no("7 holder " + holder, x.pin(holder, false, 0));
@@ -116,7 +108,7 @@ public final class HoldersTest {
     }
 
     private static void promise7PinnedByTwo() {
-        SweepRows x = withBlobs(1);
+        SweepRows x = Stores.with(0, 1);
         Due.yes("7 by 0", x.pin(0, false, 0));
         Due.yes("7 by 1", x.pin(1, false, 0));
         x.free(0);
@@ -126,7 +118,7 @@ public final class HoldersTest {
     }
 
     private static void promise8Free() {
-        SweepRows x = withBlobs(3);
+        SweepRows x = Stores.with(0, 3);
         x.result();
         x.uses(0, 2);
         x.pin(2, false, 0);
@@ -145,7 +137,7 @@ public final class HoldersTest {
     }
 
     private static void promise8FreeEndsTheLease() {
-        SweepRows x = withBlobs(1);
+        SweepRows x = Stores.with(0, 1);
         x.lease(2, 5);
         x.free(2);
         x.pin(2, false, 0);
@@ -160,7 +152,7 @@ public final class HoldersTest {
     }
 
     private static void promise9Lease() {
-        SweepRows x = withBlobs(2);
+        SweepRows x = Stores.with(0, 2);
         x.result();
         x.uses(0, 1);
         x.tick(100);
@@ -183,7 +175,7 @@ public final class HoldersTest {
     }
 
     private static void promise9LeaseOfZero() {
-        SweepRows x = withBlobs(1);
+        SweepRows x = Stores.with(0, 1);
         x.pin(0, false, 0);
         Due.yes("9 lease of 0", x.lease(0, 0));
         Due.is("9 ends now", 0, x.about(0, 1));
@@ -192,7 +184,7 @@ public final class HoldersTest {
     }
 
     private static void promise9NewLeaseBringsNothingBack() {
-        SweepRows x = withBlobs(1);
+        SweepRows x = Stores.with(0, 1);
         x.pin(0, false, 0);
         x.lease(0, 2);
         x.tick(9);
@@ -205,7 +197,7 @@ public final class HoldersTest {
     }
 
     private static void promise9LeaseAnew() {
-        SweepRows x = withBlobs(1);
+        SweepRows x = Stores.with(0, 1);
         x.lease(0, 2);
         Due.yes("9 pin in a lease", x.pin(0, false, 0));
         x.tick(1);
@@ -219,7 +211,7 @@ public final class HoldersTest {
     }
 
     private static void promise9WrongInputs() {
-        SweepRows x = withBlobs(1);
+        SweepRows x = Stores.with(0, 1);
         x.pin(0, false, 0);
         for (int holder : new int[] {-1, 8, MIN, MAX}) {
             Due.no("9 holder " + holder, x.lease(holder, 1));

@@ -24,29 +24,23 @@ public final class SharesTest {
         }
     }
 
-    private static void shares(String what, SweepRows x, int... want) {
-        for (int project = 0; project < want.length; project++) {
-            Due.is(what + ": share(" + project + ")", want[project], x.share(project));
-        }
-    }
-
     private static void promise11Weight() {
         SweepRows x = new SweepRows(100);
         weights(x, 1, 0, 0, 0, 0, 100);
-        shares("11", x, 1, 0, 0, 0, 0, 99);
+        Due.shares("11", x, 1, 0, 0, 0, 0, 99);
         for (int project : new int[] {-1, 6, MIN, MAX}) {
             Due.no("11 project " + project, x.weight(project, 1));
         }
         for (int w : new int[] {-1, 101, MIN, MAX}) {
             Due.no("11 weight " + w, x.weight(0, w));
         }
-        shares("11 nothing changed", x, 1, 0, 0, 0, 0, 99);
+        Due.shares("11 nothing changed", x, 1, 0, 0, 0, 0, 99);
     }
 
     private static void promise11OthersKeepTheirs() {
         SweepRows x = new SweepRows(100);
         x.weight(2, 5);
-        shares("11 the others have 1 each", x, 10, 10, 50, 10, 10, 10);
+        Due.shares("11 the others have 1 each", x, 10, 10, 50, 10, 10, 10);
     }
 
     private static void promise12Fair() {
@@ -107,27 +101,27 @@ public final class SharesTest {
         SweepRows x = new SweepRows(10);
         weights(x, 1, 2, 3, 0, 0, 1);
         // 10/7, 20/7, 30/7, 0, 0, 10/7: floors 1 2 4 1, remainders 3 6 2 3, two bytes left.
-        shares("21", x, 2, 3, 4, 0, 0, 1);
+        Due.shares("21", x, 2, 3, 4, 0, 0, 1);
         SweepRows y = new SweepRows(1);
         weights(y, 1, 0, 0, 5, 0, 0);
-        shares("21 one byte", y, 0, 0, 0, 1, 0, 0);
+        Due.shares("21 one byte", y, 0, 0, 0, 1, 0, 0);
     }
 
     private static void promise21EqualRemainders() {
         SweepRows x = new SweepRows(3);
-        shares("21 the lesser projects", x, 1, 1, 1, 0, 0, 0);
+        Due.shares("21 the lesser projects", x, 1, 1, 1, 0, 0, 0);
         weights(x, 0, 2, 0, 2, 2, 2);
-        shares("21 none for the weight 0", x, 0, 1, 0, 1, 1, 0);
+        Due.shares("21 none for the weight 0", x, 0, 1, 0, 1, 1, 0);
         SweepRows y = new SweepRows(65);
-        shares("21 five bytes left", y, 11, 11, 11, 11, 11, 10);
+        Due.shares("21 five bytes left", y, 11, 11, 11, 11, 11, 10);
     }
 
     private static void promise21GreatRoom() {
         SweepRows x = new SweepRows(1000000000);
         weights(x, 100, 100, 100, 100, 100, 99);
-        shares("21 great", x, 166944909, 166944908, 166944908, 166944908, 166944908, 165275459);
+        Due.shares("21 great", x, 166944909, 166944908, 166944908, 166944908, 166944908, 165275459);
         weights(x, 100, 0, 0, 0, 0, 0);
-        shares("21 all for one", x, 1000000000, 0, 0, 0, 0, 0);
+        Due.shares("21 all for one", x, 1000000000, 0, 0, 0, 0, 0);
     }
 
     private static void promise21SharesSumToTheRoom() {
@@ -145,12 +139,12 @@ public final class SharesTest {
     private static void promise21NoWeights() {
         SweepRows x = new SweepRows(7);
         weights(x, 0, 0, 0, 0, 0, 0);
-        shares("21 no weights", x, 0, 0, 0, 0, 0, 0);
+        Due.shares("21 no weights", x, 0, 0, 0, 0, 0, 0);
         x.fair(true);
         x.blob(1, 3);
         Due.is("21 a sweep without weights", 1, x.begin(0));
         x.weight(4, 1);
-        shares("21 weights again", x, 0, 0, 0, 0, 7, 0);
+        Due.shares("21 weights again", x, 0, 0, 0, 0, 7, 0);
     }
 
     private static void promise21WrongInputs() {
