@@ -523,6 +523,18 @@ public final class EdgesOfSweepsTest {
         // Size times age: 12*1, 6*2, 3*4, 6*2.
         x.begin(0);
         Due.order("17 equal products", x, 2, 1, 3, 0);
+        SweepRows z = new SweepRows(1000);
+        z.blob(3, 0);
+        z.blob(6, 0);
+        z.blob(12, 0);
+        z.tick(2);
+        z.read(1);
+        z.tick(1);
+        z.read(2);
+        z.tick(1);
+        // Size times age: 3*4, 6*2, 12*1.
+        z.begin(0);
+        Due.order("17 equal products, READ by rising numbers", z, 0, 1, 2);
         SweepRows y = new SweepRows(1000);
         y.blob(12, 0);
         y.blob(13, 0);
