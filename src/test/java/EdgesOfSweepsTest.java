@@ -349,6 +349,13 @@ public final class EdgesOfSweepsTest {
         x.free(0);
         x.tick(1);
         Due.is("14 freed, or at the end of the lease", 3, x.step(3));
+        SweepRows z = three();
+        z.result();
+        z.uses(0, 0);
+        z.begin(0);
+        z.pin(0, true, 0);
+        z.free(0);
+        Due.is("14 freed with its result", 3, z.step(3));
         SweepRows y = three();
         y.begin(0);
         y.pin(0, false, 0);

@@ -23,13 +23,17 @@ public final class FaceTest {
     private static final Pattern NOT_ALLOWED = Pattern.compile(
         "\\b(throw|throws|try|catch|synchronized|assert|package|native|transient|volatile)\\b"
         + "|->|::|Exact\\b|\\b(MAX|MIN)_VALUE\\b|\\bstatic\\s*\\{");
+    private static final Set<String> LIBRARY = Set.of(
+        "Math.max", "Math.min", "Long.bitCount", "Integer.bitCount", "Arrays.fill");
 
     public static void main(String[] args) throws IOException {
         methods();
         constructors();
         fields();
         insideClasses();
+        sizes(SweepRows.class);
         words();
+        library();
         Due.end();
     }
 
@@ -78,11 +82,32 @@ public final class FaceTest {
             Due.yes("static: " + each, Modifier.isStatic(modifiers));
             Due.no("neither public nor protected: " + each,
                 Modifier.isPublic(modifiers) || Modifier.isProtected(modifiers));
+            sizes(each);
+        }
+    }
+
+    private static void sizes(Class<?> each) {
+        long own = Arrays.stream(each.getDeclaredFields())
+            .filter(field -> !Modifier.isStatic(field.getModifiers())).count();
+        Due.yes("some twenty fields beside its constants: " + each, own <= 20);
+        for (Method method : each.getDeclaredMethods()) {
+            Due.yes("at most seven parameters: " + method, method.getParameterCount() <= 7);
+        }
+    }
+
+    private static String code() throws IOException {
+        return Files.readString(SOURCE).replaceAll("(?s)/\\*.*?\\*/", "").replaceAll("//[^\n]*", "");
+    }
+
+    private static void library() throws IOException {
+        Matcher calls = Pattern.compile("\\b[A-Z]\\w*\\.\\w+").matcher(code().replaceAll("import [^;]*;", ""));
+        while (calls.find()) {
+            Due.yes("of the library: " + calls.group(), LIBRARY.contains(calls.group()));
         }
     }
 
     private static void words() throws IOException {
-        String code = Files.readString(SOURCE).replaceAll("(?s)/\\*.*?\\*/", "").replaceAll("//[^\n]*", "");
+        String code = code();
         Matcher matcher = NOT_ALLOWED.matcher(code);
         while (matcher.find()) {
             Due.no("not in the language: " + matcher.group(), true);

@@ -8,6 +8,7 @@ public final class ResultsTest {
         promise4Uses();
         promise4AtMostEight();
         promise4DroppedBlobs();
+        promise4UsesIsNoRead();
         promise6Build();
         promise6BuildIsARead();
         promise22Whole();
@@ -72,6 +73,17 @@ public final class ResultsTest {
         Due.no("4 dropped, for another result", x.uses(1, 0));
         Due.yes("4 that one still uses nothing", x.whole(1));
         Due.no("4 dropped, for its own", x.uses(0, 0));
+    }
+
+    private static void promise4UsesIsNoRead() {
+        SweepRows x = new SweepRows(100);
+        x.result();
+        x.blob(1, 0);
+        x.tick(3);
+        x.begin(0);
+        x.uses(0, 0);
+        Due.is("4 READ stays", 0, x.about(0, 2));
+        Due.is("4 nor does it spare the blob", 1, x.step(1));
     }
 
     private static void promise6Build() {

@@ -14,6 +14,7 @@ public final class SharesTest {
         promise21GreatRoom();
         promise21SharesSumToTheRoom();
         promise21NoWeights();
+        promise21BlobsChangeNoShare();
         promise21WrongInputs();
         Due.end();
     }
@@ -55,12 +56,12 @@ public final class SharesTest {
         Due.order("12 the order stays till begin", x, 0, 1, 2);
         x.begin(0);
         Due.order("12 on", x, 1, 2, 0);
-        Due.is("12 dry is fair", 2, x.dry(9));
+        Due.is("12 dry is fair", 2, x.dry(11));
         x.fair(true);
         x.begin(0);
         Due.order("12 on again", x, 1, 2, 0);
         x.fair(false);
-        Due.is("12 dry isn't fair", 2, x.dry(5));
+        Due.is("12 dry isn't fair", 1, x.dry(11));
         x.begin(0);
         Due.order("12 off again", x, 0, 1, 2);
     }
@@ -145,6 +146,17 @@ public final class SharesTest {
         Due.is("21 a sweep without weights", 1, x.begin(0));
         x.weight(4, 1);
         Due.shares("21 weights again", x, 0, 0, 0, 0, 7, 0);
+    }
+
+    private static void promise21BlobsChangeNoShare() {
+        SweepRows x = new SweepRows(60);
+        x.blob(7, 0);
+        x.blob(20, 1);
+        x.pin(0, false, 1);
+        Due.shares("21 by room and weights alone", x, 10, 10, 10, 10, 10, 10);
+        x.begin(0);
+        x.step(9);
+        Due.shares("21 also after a drop", x, 10, 10, 10, 10, 10, 10);
     }
 
     private static void promise21WrongInputs() {

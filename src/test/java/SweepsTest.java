@@ -165,6 +165,12 @@ public final class SweepsTest {
         y.pin(0, false, 0);
         y.free(0);
         Due.is("14 freed before its step", 1, y.step(1));
+        SweepRows v = four();
+        v.begin(0);
+        v.read(0);
+        Due.yes("14 what was read can be pinned too", v.pin(0, false, 0));
+        Due.is("14 read and pinned", 3, v.step(9));
+        Due.sweep("14 spared once", v, 4, 1, 3, 1);
         SweepRows z = four();
         z.pin(0, false, 0);
         z.begin(0);
